@@ -1001,8 +1001,8 @@ public final class OneWinter {
 
         private int endOf(int from, int low, int high) {
             int to = from;
-            for (int i = from; i < TAPE && to == i && byteAt(i) >= low && byteAt(i) <= high; i++) {
-                to = i + 1;
+            while (to < TAPE && byteAt(to) >= low && byteAt(to) <= high) {
+                to++;
             }
             return to;
         }
