@@ -269,6 +269,11 @@ public final class PromisesTest {
         fault("gains gains;", 6);
         fault("gainscold;", 0);
         fault("gains  colder;", 7);
+        fault("gains bold;", 6);
+        fault("gains light;", 6);
+        fault("gains runs;", 6);
+        fault("gains nor 1;", 6);
+        fault("rains 1;", 0);
         fault("gains cold cold;", 11);
         fault("gains cold 1;", 11);
         fault("gains 1cold;", 7);
@@ -354,6 +359,8 @@ public final class PromisesTest {
         DUE.is("or", value("-1 or 0"), 1);
         DUE.is("and", value("5 and 7"), 1);
         DUE.is("and", value("5 and 0"), 0);
+        DUE.is("and", value("0 and 7"), 0);
+        DUE.is("and", value("1 and 1"), 1);
         DUE.is("and binds more", value("1 or 0 and 0"), 1);
         DUE.is("and binds more", value("0 and 0 or 5"), 1);
         DUE.is("not", value("not 0"), 1);
@@ -519,8 +526,20 @@ public final class PromisesTest {
         rule(x, "gains (night<15)=town;mild 0;most 15;");
         DUE.is("bits", x.best(0), (1 << 15) - 1);
         DUE.is("all", x.best(1), 30);
-        rule(x, "gains 9-cold;mild cold;most 3-(cold=9)*2+9*town;");
         DUE.is("the share stays", x.told(0, 0), 0);
+        OneWinter y = with(0, 0, 1);
+        rule(y, "gains 5;mild 0;most 1+2*town;");
+        int zeros = 1 << 2 | 1 << 6 | 1 << 10 | 1 << 14 | 1 << 18 | 1 << 22 | 1 << 26;
+        DUE.is("three at once for town 1, one for town 0", y.best(0), ALL_NIGHTS - zeros);
+        DUE.is("all", y.best(1), 23 * 5);
+        y.set(3, 0, 0);
+        rule(y, "gains 5;mild 0;most 3-2*town;");
+        int ones = 1 << 3 | 1 << 7 | 1 << 11 | 1 << 15 | 1 << 19 | 1 << 23 | 1 << 27;
+        DUE.is("one for town 1, three at once for town 0", y.best(0), ones);
+        y.user(1, 0, 1);
+        rule(y, "gains 4-(night=0)*9;mild 0;most 2+night*(night=3);");
+        DUE.is("a best one is lawful", withShare(y, y.best(0)).share(0), 1);
+        DUE.is("its worth", y.worth(2), y.best(1));
         DUE.is("what", x.best(2), -1000000);
         DUE.is("what", x.best(-1), -1000000);
     }
@@ -573,6 +592,7 @@ public final class PromisesTest {
         x.set(0, 0, 0b1100);
         DUE.is("a night", x.change(0), bestNight(x, 2));
         DUE.is("of like ones the first", withShare(with(0, 0, 0), 0b1110).change(0), 1);
+        DUE.is("the first night", withShare(with(0, 0, 0), 0b1111).change(0), 0);
         DUE.is("all then", withShare(with(0, 0, 0), 0b1110).change(1), 27 * 5 + 3 + 4);
         DUE.is("the share stays", x.told(0, 0), 0b1100);
         DUE.is("lawful or not", withShare(with(0, 0, 0), 1 << 9).change(0), 9);
@@ -851,6 +871,14 @@ public final class PromisesTest {
         DUE.is("tape", x.count(3), 2);
         DUE.is("rule", x.count(4), 0);
         DUE.is("cold", x.count(5), 154);
+        OneWinter y = new OneWinter();
+        y.image();
+        y.user(0, 0, 1);
+        y.back();
+        y.user(0, 0, 0);
+        y.user(0, 0, 1);
+        y.back();
+        DUE.is("those that went count no more", y.count(1), 0);
         DUE.is("what", x.count(6), -2);
         DUE.is("what", x.count(-1), -2);
     }
