@@ -373,12 +373,12 @@ public final class OneWinter {
         if (what < 0 || what > 1) {
             return BAD;
         }
-        int found = 0;
-        int least = Integer.MAX_VALUE;
+        int found = NONE;
+        int least = 0;
         for (int n = 0; n <= NIGHTS; n++) {
             for (int first = 0; first < TOWNS; first++) {
                 int apart = apartBy(cutShare(n, first));
-                if (apart < least) {
+                if (found == NONE || apart < least) {
                     least = apart;
                     found = 10 * n + first;
                 }
