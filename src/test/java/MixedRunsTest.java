@@ -14,6 +14,7 @@ public final class MixedRunsTest {
     private Model m;
     private String letters = "";
     private int fed = 0;
+    private int calls = 0;
 
     private MixedRunsTest(long seed) {
         dice = new Random(seed);
@@ -34,6 +35,7 @@ public final class MixedRunsTest {
         m = new Model();
         letters = "";
         fed = 0;
+        calls = 0;
         // Some runs are all of texts, some have few.
         int feeding = dice.nextInt(3) == 0 ? 90 : 30;
         // Some runs begin with users, so that most calls have something to say.
@@ -43,8 +45,9 @@ public final class MixedRunsTest {
                 user();
             }
         }
-        for (int i = 6; i < CALLS - 1; i++) {
-            due.about("run " + number + ", call " + i);
+        // One step makes ten calls at most.
+        while (calls <= CALLS - 10) {
+            due.about("run " + number + ", behind call " + calls);
             if (dice.nextInt(100) < feeding || fed > 0 && fed < letters.length() && dice.nextInt(3) != 0) {
                 text();
             } else {
@@ -54,6 +57,7 @@ public final class MixedRunsTest {
     }
 
     private void is(String call, long got, long want) {
+        calls++;
         due.is(call, got, want);
     }
 

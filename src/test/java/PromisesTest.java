@@ -1,8 +1,7 @@
 /** For each of the promises 1 to 29: ordinary calls, the edges that the document names, wrong ones. */
 public final class PromisesTest {
     private static final Due DUE = new Due();
-    private static final int ALL_NIGHTS = (1 << 30) - 1;
-    private static final int LOW = Integer.MIN_VALUE, HIGH = Integer.MAX_VALUE;
+    private static final int ALL_NIGHTS = Winters.ALL_NIGHTS, LOW = Winters.LOW, HIGH = Winters.HIGH;
 
     public static void main(String[] args) {
         newObject();
@@ -40,39 +39,6 @@ public final class PromisesTest {
         DUE.end("PromisesTest");
     }
 
-    private static OneWinter with(int... users) {
-        OneWinter x = new OneWinter();
-        for (int i = 0; i + 2 < users.length; i += 3) {
-            DUE.is("user", x.user(users[i], users[i + 1], users[i + 2]), i / 3);
-        }
-        return x;
-    }
-
-    private static void feedAll(OneWinter x, String letters) {
-        int before = x.count(3);
-        for (int i = 0; i < letters.length(); i++) {
-            DUE.is("feed", x.feed(letters.charAt(i)), before + i + 1);
-        }
-    }
-
-    private static int textOf(OneWinter x, String letters) {
-        feedAll(x, letters);
-        return x.text();
-    }
-
-    private static void rule(OneWinter x, String letters) {
-        int text = textOf(x, letters);
-        DUE.isTrue("a text: " + letters, text > 0);
-        x.force(text);
-    }
-
-    private static void row(OneWinter x, int sheet, int sort, int... items) {
-        DUE.is("sheet", x.sheet(sheet, sort, items.length), 1);
-        for (int i = 0; i < items.length; i++) {
-            DUE.is("cell", x.cell(sheet, i, items[i]), 1);
-        }
-    }
-
     // Reads items of a SHEET that no call reads plainly: by copying them one by one
     // to where they are told for a USER whose HAS is known to be otherwise.
     private static void isRow(OneWinter x, String what, int sheet, int user, int firstOtherwise) {
@@ -107,7 +73,7 @@ public final class PromisesTest {
 
     private static void set() {
         DUE.about("promise 2");
-        OneWinter x = with(0, 4, 1, 3, 7, 0);
+        OneWinter x = Winters.with(0, 4, 1, 3, 7, 0);
         DUE.is("share", x.set(0, 0, 6), 0);
         DUE.is("of does not matter", x.set(0, LOW, ALL_NIGHTS), 6);
         DUE.is("share", x.set(0, HIGH, 0), ALL_NIGHTS);
@@ -165,7 +131,7 @@ public final class PromisesTest {
 
     private static void told() {
         DUE.about("promise 4");
-        OneWinter x = with(2, 3, 1);
+        OneWinter x = Winters.with(2, 3, 1);
         x.set(0, 0, 0b1110011);
         DUE.is("share", x.told(LOW, 0), 0b1110011);
         DUE.is("cold", x.told(0, 1), 5);
@@ -188,7 +154,7 @@ public final class PromisesTest {
         DUE.is("most", x.told(-1, 6), -2);
         DUE.is("what", x.told(0, 7), -2);
         DUE.is("what", x.told(0, -1), -2);
-        rule(x, "gains 1;mild 1;most 10*town+night+cold+users+number+run;");
+        Winters.rule(x, "gains 1;mild 1;most 10*town+night+cold+users+number+run;");
         DUE.is("most", x.told(0, 6), 16);
         DUE.is("most", x.told(3, 6), 9);
         DUE.is("most", x.told(4, 6), 20);
@@ -218,21 +184,21 @@ public final class PromisesTest {
 
     private static void text() {
         DUE.about("promise 6");
-        OneWinter x = with(0, 3, 0);
+        OneWinter x = Winters.with(0, 3, 0);
         DUE.is("an empty tape", x.text(), -100);
         String whole = "gains cold*2-number+run;mild 4-(night<9)*3;most 3-town;";
-        DUE.is("text", textOf(x, whole), 1);
+        DUE.is("text", Winters.textOf(x, whole), 1);
         DUE.is("the tape is empty", x.count(3), 0);
         DUE.is("texts", x.count(2), 2);
         DUE.is("the rule stays", x.count(4), 0);
-        DUE.is("blanks", textOf(x, "\ngains\n  cold ;\n mild-1;most(1) ; \n"), 2);
-        DUE.is("a fault", textOf(x, "gains cold; mild 1; most 9; ;"), -128);
+        DUE.is("blanks", Winters.textOf(x, "\ngains\n  cold ;\n mild-1;most(1) ; \n"), 2);
+        DUE.is("a fault", Winters.textOf(x, "gains cold; mild 1; most 9; ;"), -128);
         DUE.is("empty by a fault, too", x.count(3), 0);
         DUE.is("texts", x.count(2), 3);
         for (int i = 3; i <= 5; i++) {
-            DUE.is("text", textOf(x, "gains 1;mild 1;most 1;"), i);
+            DUE.is("text", Winters.textOf(x, "gains 1;mild 1;most 1;"), i);
         }
-        feedAll(x, "gains cold");
+        Winters.feedAll(x, "gains cold");
         DUE.is("full", x.text(), -4);
         DUE.is("the tape stays", x.count(3), 10);
         DUE.is("full again", x.text(), -4);
@@ -242,16 +208,16 @@ public final class PromisesTest {
         while (long160.length() < 159) {
             long160.append("+1");
         }
-        DUE.is("160 bytes", textOf(y, long160.append(";").toString()), 1);
+        DUE.is("160 bytes", Winters.textOf(y, long160.append(";").toString()), 1);
         y.force(1);
         DUE.is("most", y.told(0, 6), 30);
         String grown = long160.substring(0, 159) + " ";
-        DUE.is("160 bytes, ended too early", textOf(y, grown), -260);
+        DUE.is("160 bytes, ended too early", Winters.textOf(y, grown), -260);
     }
 
     private static void fault(String letters, int place) {
         OneWinter x = new OneWinter();
-        DUE.is("text of \"" + letters + "\"", textOf(x, letters), -100 - place);
+        DUE.is("text of \"" + letters + "\"", Winters.textOf(x, letters), -100 - place);
         DUE.is("no text came", x.count(2), 1);
         DUE.is("the tape is empty", x.count(3), 0);
     }
@@ -308,7 +274,7 @@ public final class PromisesTest {
         fault("gains cold;mild 1;most 9;gains", 25);
         fault("gains 1;mild x;most \u0000;", 13);
         OneWinter x = new OneWinter();
-        DUE.is("four digits", textOf(x, "gains 9999;mild 0000;most 0001;"), 1);
+        DUE.is("four digits", Winters.textOf(x, "gains 9999;mild 0000;most 0001;"), 1);
     }
 
     private static void textOpens() {
@@ -322,16 +288,16 @@ public final class PromisesTest {
         fault("gains (((((1-(2))))));", 13);
         fault("gains (((((-1)))));", 11);
         OneWinter x = new OneWinter();
-        DUE.is("five", textOf(x, "gains (((((1-2)))))+(((((2)))))*-----3;mild 1;most 1;"), 1);
-        DUE.is("five", textOf(x, "gains not not not not not 1 and not not not not not 1;mild 1;most 1;"), 2);
-        DUE.is("five", textOf(x, "gains not(-(-1))and not 1*((((2))))+-1;mild 1;most 1;"), 3);
-        DUE.is("five", textOf(x, "gains ((((1)+(1))+(1))-((((3)))));mild not -(-(1));most 1;"), 4);
+        DUE.is("five", Winters.textOf(x, "gains (((((1-2)))))+(((((2)))))*-----3;mild 1;most 1;"), 1);
+        DUE.is("five", Winters.textOf(x, "gains not not not not not 1 and not not not not not 1;mild 1;most 1;"), 2);
+        DUE.is("five", Winters.textOf(x, "gains not(-(-1))and not 1*((((2))))+-1;mild 1;most 1;"), 3);
+        DUE.is("five", Winters.textOf(x, "gains ((((1)+(1))+(1))-((((3)))));mild not -(-(1));most 1;"), 4);
     }
 
     private static int value(String e) {
-        OneWinter x = with(0, 7, 0, 1, 0, 1);
+        OneWinter x = Winters.with(0, 7, 0, 1, 0, 1);
         x.set(1, 2, 8);
-        rule(x, "gains " + e + ";mild 0;most 1;");
+        Winters.rule(x, "gains " + e + ";mild 0;most 1;");
         return x.has(0, 2);
     }
 
@@ -385,12 +351,12 @@ public final class PromisesTest {
 
     private static void force() {
         DUE.about("promise 7");
-        OneWinter x = with(0, 3, 0);
+        OneWinter x = Winters.with(0, 3, 0);
         DUE.is("no such text", x.force(1), -2);
         DUE.is("no such text", x.force(-1), -2);
         DUE.is("text 0", x.force(0), 0);
-        textOf(x, "gains 3;mild 1;most 9;");
-        textOf(x, "gains 4;mild 1;most 9;");
+        Winters.textOf(x, "gains 3;mild 1;most 9;");
+        Winters.textOf(x, "gains 4;mild 1;most 9;");
         DUE.is("force", x.force(2), 0);
         DUE.is("has", x.has(0, 0), 4);
         DUE.is("force", x.force(1), 2);
@@ -403,8 +369,8 @@ public final class PromisesTest {
 
     private static void has() {
         DUE.about("promise 8");
-        OneWinter x = with(0, 6, 0, 1, 6, 0, 2, 6, 0, 3, 6, 0, 4, 6, 0, 5, 6, 0);
-        rule(x, "gains cold;mild 3;most 9;");
+        OneWinter x = Winters.with(0, 6, 0, 1, 6, 0, 2, 6, 0, 3, 6, 0, 4, 6, 0, 5, 6, 0);
+        Winters.rule(x, "gains cold;mild 3;most 9;");
         // NIGHTS 0, 1 and 4, 5 are theirs, with RUN 1, 2 each.
         x.set(0, 0, 0b001100);
         x.set(1, 0, 7);
@@ -435,8 +401,8 @@ public final class PromisesTest {
 
     private static void hasBounds() {
         DUE.about("promise 8, bounds");
-        OneWinter x = with(0, 6, 0, 1, 6, 0, 3, 9, 0, 4, 9, 1, 5, 0, 1);
-        rule(x, "gains 100;mild 9999;most 99;");
+        OneWinter x = Winters.with(0, 6, 0, 1, 6, 0, 3, 9, 0, 4, 9, 1, 5, 0, 1);
+        Winters.rule(x, "gains 100;mild 9999;most 99;");
         x.set(1, 1, 9);
         DUE.is("gains", x.has(0, 1), 99);
         DUE.is("gains", x.has(1, 1), 198);
@@ -444,15 +410,15 @@ public final class PromisesTest {
         DUE.is("mild", x.has(3, 1), 108);
         DUE.is("mild", x.has(4, 1), 101);
         DUE.is("most", x.told(1, 6), 30);
-        rule(x, "gains 0-100;mild -9999;most 0;");
+        Winters.rule(x, "gains 0-100;mild -9999;most 0;");
         DUE.is("gains", x.has(0, 1), -99);
         DUE.is("mild", x.has(3, 1), -90);
         DUE.is("most", x.told(1, 6), 1);
-        rule(x, "gains 99;mild -99;most 30;");
+        Winters.rule(x, "gains 99;mild -99;most 30;");
         DUE.is("gains", x.has(0, 1), 99);
         DUE.is("mild", x.has(4, 1), -97);
         DUE.is("most", x.told(1, 6), 30);
-        rule(x, "gains town*10+run;mild town*20+run+number;most -5;");
+        Winters.rule(x, "gains town*10+run;mild town*20+run+number;most -5;");
         DUE.is("gains", x.has(0, 4), 5);
         x.set(0, 0, 0b11000);
         DUE.is("mild", x.has(0, 4), 28);
@@ -461,7 +427,7 @@ public final class PromisesTest {
 
     private static void worth() {
         DUE.about("promise 9");
-        OneWinter x = with(0, 0, 0, 1, 0, 1, 5, 0, 1);
+        OneWinter x = Winters.with(0, 0, 0, 1, 0, 1, 5, 0, 1);
         x.set(0, 0, 0b110);
         DUE.is("worth(0)", x.worth(0), 28 * 5 + 2);
         DUE.is("worth(1)", x.worth(1), 5 + 10 + 28 * 3 - 10);
@@ -485,7 +451,7 @@ public final class PromisesTest {
         DUE.is("town 1's", x.share(3), 3);
         x.set(0, 0, ALL_NIGHTS);
         DUE.is("town 1's", x.share(3), 30);
-        rule(x, "gains 1;mild 1;most 1+29*town;");
+        Winters.rule(x, "gains 1;mild 1;most 1+29*town;");
         DUE.is("lawful", x.share(0), 1);
         x.set(0, 0, ALL_NIGHTS - (3 << 28));
         DUE.is("too much on the last", x.share(1), 29);
@@ -496,7 +462,7 @@ public final class PromisesTest {
 
     private static void mean() {
         DUE.about("promise 11");
-        OneWinter x = with(0, 0, 0, 2, 0, 0, 1, 0, 1, 3, 1, 1);
+        OneWinter x = Winters.with(0, 0, 0, 2, 0, 0, 1, 0, 1, 3, 1, 1);
         x.set(1, 0, 4);
         DUE.is("above", x.mean(0, 0), 149);
         DUE.is("below", x.mean(0, 1), 30);
@@ -517,28 +483,28 @@ public final class PromisesTest {
         OneWinter x = new OneWinter();
         DUE.is("no users", x.best(0), 1 << 9 | 1 << 19 | 1 << 29);
         DUE.is("no users", x.best(1), 0);
-        x = with(0, 0, 0, 0, 0, 1);
-        rule(x, "gains 1;mild 1;most 1;");
+        x = Winters.with(0, 0, 0, 0, 0, 1);
+        Winters.rule(x, "gains 1;mild 1;most 1;");
         DUE.is("of like ones town 0 first", x.best(0), 0b101010101010101010101010101010);
         DUE.is("all", x.best(1), 60);
-        rule(x, "gains 1;mild 1;most 30;");
+        Winters.rule(x, "gains 1;mild 1;most 30;");
         DUE.is("of like ones town 0 first", x.best(0), 0);
-        rule(x, "gains (night<15)=town;mild 0;most 15;");
+        Winters.rule(x, "gains (night<15)=town;mild 0;most 15;");
         DUE.is("bits", x.best(0), (1 << 15) - 1);
         DUE.is("all", x.best(1), 30);
         DUE.is("the share stays", x.told(0, 0), 0);
-        OneWinter y = with(0, 0, 1);
-        rule(y, "gains 5;mild 0;most 1+2*town;");
+        OneWinter y = Winters.with(0, 0, 1);
+        Winters.rule(y, "gains 5;mild 0;most 1+2*town;");
         int zeros = 1 << 2 | 1 << 6 | 1 << 10 | 1 << 14 | 1 << 18 | 1 << 22 | 1 << 26;
         DUE.is("three at once for town 1, one for town 0", y.best(0), ALL_NIGHTS - zeros);
         DUE.is("all", y.best(1), 23 * 5);
         y.set(3, 0, 0);
-        rule(y, "gains 5;mild 0;most 3-2*town;");
+        Winters.rule(y, "gains 5;mild 0;most 3-2*town;");
         int ones = 1 << 3 | 1 << 7 | 1 << 11 | 1 << 15 | 1 << 19 | 1 << 23 | 1 << 27;
         DUE.is("one for town 1, three at once for town 0", y.best(0), ones);
         y.user(1, 0, 1);
-        rule(y, "gains 4-(night=0)*9;mild 0;most 2+night*(night=3);");
-        DUE.is("a best one is lawful", withShare(y, y.best(0)).share(0), 1);
+        Winters.rule(y, "gains 4-(night=0)*9;mild 0;most 2+night*(night=3);");
+        DUE.is("a best one is lawful", Winters.withShare(y, y.best(0)).share(0), 1);
         DUE.is("its worth", y.worth(2), y.best(1));
         DUE.is("what", x.best(2), -1000000);
         DUE.is("what", x.best(-1), -1000000);
@@ -546,7 +512,7 @@ public final class PromisesTest {
 
     private static void settle() {
         DUE.about("promise 13");
-        OneWinter x = with(1, 0, 0, 0, 0, 1);
+        OneWinter x = Winters.with(1, 0, 0, 0, 0, 1);
         int share = x.best(0);
         int all = x.best(1);
         DUE.is("settle", x.settle(), all);
@@ -561,19 +527,19 @@ public final class PromisesTest {
 
     private static void cut() {
         DUE.about("promise 14");
-        OneWinter x = with(0, 0, 0, 0, 0, 1);
+        OneWinter x = Winters.with(0, 0, 0, 0, 0, 1);
         DUE.is("cut", x.cut(0), 150);
         DUE.is("apart", x.cut(1), 0);
-        x = with(0, 0, 1);
-        rule(x, "gains 1;mild 0;most 9;");
+        x = Winters.with(0, 0, 1);
+        Winters.rule(x, "gains 1;mild 0;most 9;");
         DUE.is("none is theirs, town 1 first", x.cut(0), 1);
         DUE.is("apart", x.cut(1), 0);
-        rule(x, "gains 0-1;mild 5;most 9;");
+        Winters.rule(x, "gains 0-1;mild 5;most 9;");
         DUE.is("five", x.cut(0), 50);
         DUE.is("apart", x.cut(1), 0);
         x.set(3, 0, 0);
         DUE.is("of like ones the first", x.cut(0), 51);
-        rule(x, "gains 0-(night<29);mild 30;most 9;");
+        Winters.rule(x, "gains 0-(night<29);mild 30;most 9;");
         DUE.is("the last", x.cut(0), 290);
         DUE.is("apart", x.cut(1), 1);
         DUE.is("what", x.cut(2), -2);
@@ -583,7 +549,7 @@ public final class PromisesTest {
 
     private static void change() {
         DUE.about("promise 15");
-        OneWinter x = with(0, 0, 0);
+        OneWinter x = Winters.with(0, 0, 0);
         DUE.is("none", x.change(0), -1);
         DUE.is("as now", x.change(1), 150);
         DUE.is("no users", new OneWinter().change(0), -1);
@@ -591,19 +557,14 @@ public final class PromisesTest {
         x.user(1, 0, 1);
         x.set(0, 0, 0b1100);
         DUE.is("a night", x.change(0), bestNight(x, 2));
-        DUE.is("of like ones the first", withShare(with(0, 0, 0), 0b1110).change(0), 1);
-        DUE.is("the first night", withShare(with(0, 0, 0), 0b1111).change(0), 0);
-        DUE.is("all then", withShare(with(0, 0, 0), 0b1110).change(1), 27 * 5 + 3 + 4);
+        DUE.is("of like ones the first", Winters.withShare(Winters.with(0, 0, 0), 0b1110).change(0), 1);
+        DUE.is("the first night", Winters.withShare(Winters.with(0, 0, 0), 0b1111).change(0), 0);
+        DUE.is("all then", Winters.withShare(Winters.with(0, 0, 0), 0b1110).change(1), 27 * 5 + 3 + 4);
         DUE.is("the share stays", x.told(0, 0), 0b1100);
-        DUE.is("lawful or not", withShare(with(0, 0, 0), 1 << 9).change(0), 9);
-        DUE.is("the last night", withShare(with(0, 0, 0), 1 << 29).change(0), 29);
+        DUE.is("lawful or not", Winters.withShare(Winters.with(0, 0, 0), 1 << 9).change(0), 9);
+        DUE.is("the last night", Winters.withShare(Winters.with(0, 0, 0), 1 << 29).change(0), 29);
         DUE.is("what", x.change(2), -1000000);
         DUE.is("what", x.change(-1), -1000000);
-    }
-
-    private static OneWinter withShare(OneWinter x, int share) {
-        x.set(0, 0, share);
-        return x;
     }
 
     private static int bestNight(OneWinter x, int whose) {
@@ -623,7 +584,7 @@ public final class PromisesTest {
 
     private static void forTown() {
         DUE.about("promise 16");
-        OneWinter x = with(0, 0, 0, 1, 0, 1);
+        OneWinter x = Winters.with(0, 0, 0, 1, 0, 1);
         x.set(1, 7, 9);
         DUE.is("town 0", x.forTown(0, 0), -1);
         DUE.is("as now", x.forTown(0, 1), 154);
@@ -645,26 +606,26 @@ public final class PromisesTest {
         DUE.about("promise 17");
         DUE.is("none", new OneWinter().heaviest(0), -1);
         DUE.is("none", new OneWinter().heaviest(1), 0);
-        OneWinter x = with(1, 0, 1, 0, 0, 0, 2, 0, 0);
+        OneWinter x = Winters.with(1, 0, 1, 0, 0, 0, 2, 0, 0);
         DUE.is("of like ones the first", x.heaviest(0), 1);
         DUE.is("what it has", x.heaviest(1), 150);
         x.user(4, 0, 0);
         DUE.is("without its sign", x.heaviest(0), 3);
         DUE.is("what it has, below 0", x.heaviest(1), -300);
-        DUE.is("the first, though it has nothing", with(1, 0, 1).heaviest(0), 0);
+        DUE.is("the first, though it has nothing", Winters.with(1, 0, 1).heaviest(0), 0);
         DUE.is("what", x.heaviest(2), -1000000);
         DUE.is("what", x.heaviest(-1), -1000000);
     }
 
     private static void tells() {
         DUE.about("promise 18");
-        OneWinter x = with(3, 4, 0);
-        textOf(x, "gains cold;mild 0-4;most 3;");
-        textOf(x, "gains cold+(number=4)-1;mild 1;most 3;");
+        OneWinter x = Winters.with(3, 4, 0);
+        Winters.textOf(x, "gains cold;mild 0-4;most 3;");
+        Winters.textOf(x, "gains cold+(number=4)-1;mild 1;most 3;");
         x.set(1, 1, 8);
         x.set(0, 0, 0b100);
         // It has 5, 16 + 4, 0 - 4, 5, 10 ..
-        row(x, 0, 1, 5, 20, -4, 5, 10);
+        Winters.row(x, 0, 1, 5, 20, -4, 5, 10);
         DUE.is("all so", x.tells(0, 0, 0), -1);
         DUE.is("kinds", x.tells(0, 0, 1), 1 << 3);
         DUE.is("numbers", x.tells(0, 0, 2), 1 << 4);
@@ -676,15 +637,15 @@ public final class PromisesTest {
         for (int what = 1; what <= 5; what++) {
             DUE.is("otherwise", x.tells(0, 0, what), 0);
         }
-        row(x, 1, 2, 5, 20);
+        Winters.row(x, 1, 2, 5, 20);
         DUE.is("numbers of few nights", x.tells(1, 0, 2), 1 << 4);
-        row(x, 1, 2, 5);
+        Winters.row(x, 1, 2, 5);
         DUE.is("kinds of one night", x.tells(1, 0, 1), 0b1011);
         DUE.is("numbers of one night", x.tells(1, 0, 2), 1023);
         DUE.is("nights", x.tells(1, 0, 5), 0);
-        OneWinter y = with(1, 0, 1);
-        rule(y, "gains (cold=9)*5;mild 1;most 9;");
-        row(y, 0, 0, 0, 0, 0);
+        OneWinter y = Winters.with(1, 0, 1);
+        Winters.rule(y, "gains (cold=9)*5;mild 1;most 9;");
+        Winters.row(y, 0, 0, 0, 0, 0);
         DUE.is("nights that leave all so", y.tells(0, 0, 5), 0b111);
         y.set(1, 1, 9);
         DUE.is("but one", y.tells(0, 0, 5), 0b101);
@@ -694,7 +655,7 @@ public final class PromisesTest {
         y.set(0, 0, 2);
         DUE.is("texts", y.tells(0, 0, 4), 0b10);
         y.set(1, 1, 5);
-        row(y, 1, 0, 0, 5);
+        Winters.row(y, 1, 0, 0, 5);
         DUE.is("texts", y.tells(1, 0, 4), 0b01);
         DUE.is("towns", y.tells(1, 0, 3), 0);
         DUE.is("numbers enter the rule", numbersByRule(), 0b11000);
@@ -702,14 +663,14 @@ public final class PromisesTest {
     }
 
     private static int numbersByRule() {
-        OneWinter x = with(0, 7, 0);
-        rule(x, "gains number=3 or number=4;mild 1;most 9;");
-        row(x, 2, 0, 1, 1, 1);
+        OneWinter x = Winters.with(0, 7, 0);
+        Winters.rule(x, "gains number=3 or number=4;mild 1;most 9;");
+        Winters.row(x, 2, 0, 1, 1, 1);
         return x.tells(2, 0, 2);
     }
 
     private static void tellsRefusals() {
-        OneWinter x = with(0, 4, 0);
+        OneWinter x = Winters.with(0, 4, 0);
         DUE.is("sheet", x.tells(-1, 0, 0), -2);
         DUE.is("sheet", x.tells(4, 0, 0), -2);
         DUE.is("user", x.tells(0, 1, 0), -2);
@@ -732,7 +693,7 @@ public final class PromisesTest {
 
     private static void film() {
         DUE.about("promise 19");
-        OneWinter x = with(4, 9, 0, 3, 2, 1);
+        OneWinter x = Winters.with(4, 9, 0, 3, 2, 1);
         x.set(0, 0, 0b110);
         DUE.is("film", x.film(2, 0, 30), 30);
         isRow(x, "it tells so", 2, 0, -1);
@@ -765,7 +726,7 @@ public final class PromisesTest {
     private static void drawn() {
         DUE.about("promise 20");
         for (int seed : new int[] {0, 1, -7, HIGH, LOW, 123456789}) {
-            OneWinter x = with(0, 0, 0, 2, 0, 0, 5, 0, 1);
+            OneWinter x = Winters.with(0, 0, 0, 2, 0, 0, 5, 0, 1);
             x.set(0, 0, 0b1011);
             int due = 0;
             for (int i = 0; i < 30; i++) {
@@ -780,7 +741,7 @@ public final class PromisesTest {
 
     private static void chance() {
         DUE.about("promise 21");
-        OneWinter x = with(0, 0, 0, 0, 0, 1);
+        OneWinter x = Winters.with(0, 0, 0, 0, 0, 1);
         x.set(0, 0, 0b001100101010101010101010101010);
         for (int seed : new int[] {5, HIGH - 3, -12}) {
             for (int n = 1; n <= 20; n++) {
@@ -801,7 +762,7 @@ public final class PromisesTest {
         OneWinter none = new OneWinter();
         DUE.is("none is more", none.chance(3, 20, 0), 0);
         DUE.is("none is more", none.chance(3, 20, 1), 1);
-        OneWinter always = with(0, 0, 0);
+        OneWinter always = Winters.with(0, 0, 0);
         DUE.is("always", always.chance(3, 20, 0), 1);
         DUE.is("always", always.chance(3, 20, 1), 1);
         DUE.is("n", x.chance(0, 0, 0), OneWinter.NO);
@@ -813,11 +774,11 @@ public final class PromisesTest {
 
     private static void image() {
         DUE.about("promises 22 and 23");
-        OneWinter x = with(3, 4, 0, 1, 2, 1);
+        OneWinter x = Winters.with(3, 4, 0, 1, 2, 1);
         DUE.is("none", x.back(), -3);
         x.set(1, 3, 8);
         x.set(0, 0, 77);
-        textOf(x, "gains 3;mild 1;most 9;");
+        Winters.textOf(x, "gains 3;mild 1;most 9;");
         x.force(1);
         DUE.is("image", x.image(), 2);
         x.set(1, 3, 0);
@@ -825,7 +786,7 @@ public final class PromisesTest {
         x.set(2, 0, 9);
         x.set(3, 1, 0);
         x.user(0, 0, 0);
-        textOf(x, "gains 4;mild 1;most 9;");
+        Winters.textOf(x, "gains 4;mild 1;most 9;");
         x.force(2);
         x.feed(32);
         x.sheet(0, 0, 1);
@@ -861,7 +822,7 @@ public final class PromisesTest {
 
     private static void count() {
         DUE.about("promise 24");
-        OneWinter x = with(0, 0, 1, 0, 0, 0, 0, 0, 1);
+        OneWinter x = Winters.with(0, 0, 1, 0, 0, 0, 0, 0, 1);
         x.set(1, 0, 9);
         x.feed(1);
         x.feed(2);
@@ -885,7 +846,7 @@ public final class PromisesTest {
 
     private static void sheet() {
         DUE.about("promise 25");
-        OneWinter x = with(1, 0, 1);
+        OneWinter x = Winters.with(1, 0, 1);
         DUE.is("sheet", x.sheet(-1, 0, 0), -2);
         DUE.is("sheet", x.sheet(4, 0, 0), -2);
         DUE.is("sort", x.sheet(0, -2, 0), -2);
@@ -901,7 +862,7 @@ public final class PromisesTest {
         DUE.is("behind it", x.cell(3, 40, 7), -12);
         DUE.is("none", x.sheet(3, 1, 0), 1);
         DUE.is("no item", x.cell(3, 0, 7), -12);
-        row(x, 1, 2, 5, 6, 7);
+        Winters.row(x, 1, 2, 5, 6, 7);
         x.sheet(1, 2, 3);
         isRow(x, "all 0", 1, 0, -1);
         DUE.is("missing", x.sheet(1, -1, LOW), 1);
@@ -913,18 +874,18 @@ public final class PromisesTest {
 
     private static void cell() {
         DUE.about("promise 26");
-        OneWinter x = with(0, 0, 0);
-        rule(x, "gains 0-56;mild 1;most 1;");
+        OneWinter x = Winters.with(0, 0, 0);
+        Winters.rule(x, "gains 0-56;mild 1;most 1;");
         DUE.is("missing", x.cell(0, 99, 0), -11);
         DUE.is("sheet", x.cell(4, 0, 0), -2);
         DUE.is("sheet", x.cell(-1, 0, 0), -2);
-        row(x, 0, 0, 200, 0xabc8, -56);
+        Winters.row(x, 0, 0, 200, 0xabc8, -56);
         isRow(x, "the lowest 8 bits", 0, 0, -1);
-        row(x, 0, 1, 65480, 0x3ffc8);
+        Winters.row(x, 0, 1, 65480, 0x3ffc8);
         isRow(x, "the lowest 16 bits", 0, 0, -1);
-        row(x, 0, 1, -56, 200);
+        Winters.row(x, 0, 1, -56, 200);
         isRow(x, "shorts keep 200", 0, 0, 1);
-        row(x, 0, 2, -56, 65480);
+        Winters.row(x, 0, 2, -56, 65480);
         isRow(x, "ints keep 65480", 0, 0, 1);
         DUE.is("outside", x.cell(0, 2, 0), -12);
         DUE.is("outside", x.cell(0, -1, 0), -12);
@@ -934,18 +895,18 @@ public final class PromisesTest {
 
     private static void copy() {
         DUE.about("promise 27");
-        OneWinter x = with(0, 0, 0);
-        rule(x, "gains night;mild 0;most 1;");
-        row(x, 0, 2, 9, 0, 1, 2, 9);
+        OneWinter x = Winters.with(0, 0, 0);
+        Winters.rule(x, "gains night;mild 0;most 1;");
+        Winters.row(x, 0, 2, 9, 0, 1, 2, 9);
         x.sheet(1, 2, 4);
         DUE.is("copy", x.copy(0, 1, 1, 0, 3), 3);
         x.cell(1, 3, 3);
         isRow(x, "copied", 1, 0, -1);
-        row(x, 0, 2, 1, 2, 3, 4, 0);
+        Winters.row(x, 0, 2, 1, 2, 3, 4, 0);
         DUE.is("within itself, as they were", x.copy(0, 0, 0, 1, 4), 4);
         x.cell(0, 0, 0);
         isRow(x, "copied", 0, 0, -1);
-        row(x, 0, 2, 9, 0, 1, 2, 3);
+        Winters.row(x, 0, 2, 9, 0, 1, 2, 3);
         DUE.is("within itself, as they were", x.copy(0, 1, 0, 0, 4), 4);
         x.cell(0, 4, 4);
         isRow(x, "copied", 0, 0, -1);
@@ -976,7 +937,7 @@ public final class PromisesTest {
     private static void users() {
         DUE.about("promise 28");
         OneWinter x = new OneWinter();
-        row(x, 0, 0, 9, 3, 4, 1, 6, 0, 0, 5, 9, 0, 4, 1);
+        Winters.row(x, 0, 0, 9, 3, 4, 1, 6, 0, 0, 5, 9, 0, 4, 1);
         DUE.is("users", x.users(0, 0, 1, 3), 2);
         DUE.is("kind", x.told(0, 4), 3);
         DUE.is("number", x.told(0, 2), 4);
@@ -999,19 +960,19 @@ public final class PromisesTest {
         DUE.is("n", x.users(0, 0, 0, -1), -2);
         DUE.is("another sort", x.users(0, 1, 99, 1), -13);
         DUE.is("missing", x.users(1, 2, 99, 1), -11);
-        row(x, 2, 2, 1, 1, 1, 2, 2, 0, 3, 3, 1, 4, 4, 0);
+        Winters.row(x, 2, 2, 1, 1, 1, 2, 2, 0, 3, 3, 1, 4, 4, 0);
         DUE.is("the seventh is left out", x.users(2, 2, 0, 4), 1);
         DUE.is("six", x.count(0), 6);
         DUE.is("number", x.told(5, 2), 1);
         DUE.is("full, but outside", x.users(2, 2, 3, 4), -12);
         OneWinter y = new OneWinter();
-        row(y, 0, 0, 256, 0, 0, 255, 0, 0);
+        Winters.row(y, 0, 0, 256, 0, 0, 255, 0, 0);
         DUE.is("bytes are below 0, too", y.users(0, 0, 0, 2), 1);
     }
 
     private static void taken() {
         DUE.about("promise 29");
-        OneWinter x = with(0, 3, 0, 1, 4, 0, 2, 5, 0, 3, 6, 0, 4, 7, 0, 5, 8, 0);
+        OneWinter x = Winters.with(0, 3, 0, 1, 4, 0, 2, 5, 0, 3, 6, 0, 4, 7, 0, 5, 8, 0);
         int[] under = {0b000001, 0b000011, 0b000101, 0b001011, 0b010101, 0b100001};
         for (int u = 0; u < 6; u++) {
             for (int k = 0; k < 6; k++) {
