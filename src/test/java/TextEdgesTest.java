@@ -11,6 +11,7 @@ public final class TextEdgesTest {
     public static void main(String[] args) {
         tape();
         sixTexts();
+        nothingLeft();
         emptyAndEarly();
         eachByte();
         words();
@@ -91,6 +92,30 @@ public final class TextEdgesTest {
         }
         DUE.is("force(6)", x.force(6), -2);
         DUE.is("force(-1)", x.force(-1), -2);
+    }
+
+    private static void nothingLeft() {
+        DUE.about("THE TAPE, which is empty then (by a FAULT, too)");
+        OneWinter x = new OneWinter();
+        String[] longer = {"gains coldx", "gains 12345", "gains 1  2", "gains gainsgains", "mildgains 11111"};
+        String[] then = {"gains cold", "gains 1234", "gains 1", "gains", "mild"};
+        int[] due = {-110, -110, -107, -105, -100};
+        for (int i = 0; i < longer.length; i++) {
+            DUE.isTrue("a fault by " + longer[i], Winters.textOf(x, longer[i]) <= -100);
+            DUE.is(then[i] + " behind " + longer[i], Winters.textOf(x, then[i]), due[i]);
+        }
+        DUE.is("behind all these", Winters.textOf(x, WHOLE), 1);
+        DUE.is("behind a text", Winters.textOf(x, "gains 1;mild 1;most 1"), -121);
+        DUE.about("nothing of a FAULT is in the next TEXT");
+        OneWinter y = Winters.with(0, 0, 0, 0, 0, 1);
+        for (String e : new String[] {"1-".repeat(70), "-(1+-(1-(1*", "not 1 and (1+(1<2*"}) {
+            Winters.textOf(y, "gains 7;mild " + e);
+        }
+        DUE.is("a text", Winters.textOf(y, "gains cold" + "+1".repeat(30) + ";mild 3-run*2;most 7;"), 1);
+        y.force(1);
+        DUE.is("gains", y.has(0, 1), 35);
+        DUE.is("mild", y.has(1, 1), -1);
+        DUE.is("most", y.told(1, 6), 7);
     }
 
     // ---- FAULT
